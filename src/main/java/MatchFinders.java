@@ -99,7 +99,7 @@ public final class MatchFinders {
     }
 
     public int octet(int i) {
-        return text.has(i) ? text.at(i) : NO_SUCH;
+        return text.at(i);
     }
 
     // ---- matches
@@ -242,13 +242,9 @@ public final class MatchFinders {
     /** The row of a way, told anew only if THE TEXT or THE DICTIONARY has changed since. */
     private Row rowOf(int way) {
         Row row = rows[way];
-        if (!row.told) {
-            tell(row, way);
+        if (row.told) {
+            return row;
         }
-        return row;
-    }
-
-    private void tell(Row row, int way) {
         if (way == FEWEST_BITS) {
             plan.make(finder);
         }
@@ -262,6 +258,7 @@ public final class MatchFinders {
             place += length;
         }
         row.told = true;
+        return row;
     }
 
     /** Leaves in the finder the match that the way takes at a place, or none for a LITERAL. */
@@ -305,12 +302,9 @@ public final class MatchFinders {
             size = 0;
         }
 
-        boolean has(int place) {
-            return place >= -ahead && place < size;
-        }
-
+        /** The byte at a place, from -1 back of THE DICTIONARY; NO_SUCH where none stands. */
         int at(int place) {
-            return has(place) ? bytes[ahead + place] : NO_SUCH;
+            return place >= -ahead && place < size ? bytes[ahead + place] : NO_SUCH;
         }
 
         int farthest(int place) {
@@ -321,14 +315,13 @@ public final class MatchFinders {
             return Math.min(MOST_LENGTH, size - place);
         }
 
-        /** How many bytes from a place on are the one a distance before; at most MOST_LENGTH. */
-        int reach(int place, int distance) {
-            if (!has(place) || !has(place - distance)) {
-                return 0;
-            }
+        /** How many bytes from a place on, at most so many, are each the one a distance before. */
+        int reach(int place, int distance, int most) {
             int here = ahead + place;
             int there = here - distance;
-            int most = mostLength(place);
+            if (there < 0 || there >= here || here + most > bytes.length) {
+                return 0;
+            }
             int length = 0;
             while (length < most && bytes[here + length] == bytes[there + length]) {
                 length++;
@@ -366,7 +359,7 @@ public final class MatchFinders {
             int best = LEAST_LENGTH - 1;
             // Behind a distance of the greatest length that may be, none can be greater.
             for (int d = 1; d <= farthest && best < most; d++) {
-                int reach = text.reach(place, d);
+                int reach = text.reach(place, d, most);
                 if (reach > best && frontCount < MOST_FRONT) {
                     frontLengths[frontCount] = reach;
                     frontDistances[frontCount] = d;
@@ -387,10 +380,11 @@ public final class MatchFinders {
 
         void seekChained(int place) {
             take(0, 0);
+            int most = text.mostLength(place);
             int farthest = Math.min(span, text.farthest(place));
             int seen = 0;
             for (int d = 1; d <= farthest && seen < depth; d++) {
-                int reach = text.reach(place, d);
+                int reach = text.reach(place, d, most);
                 if (reach >= LEAST_LENGTH) {
                     seen++;
                     if (reach > length) {

@@ -217,6 +217,8 @@ public final class PieceTest {
     dueRepeats("51 62 73 51 84 51", 2, 51, 62, 73, 51, 84, 51);
     dueRepeats("51 62 73 62 84 51", 1, 51, 62, 73, 62, 84, 51);
     dueRepeats("51 62 73 62 84 73", 2, 51, 62, 73, 62, 84, 73);
+    // 62 used again goes ahead of 73, and 51 stays the third.
+    dueRepeats("51 62 73 62 51", 2, 51, 62, 73, 62, 51);
     // A DISTANCE used twice stands there once: the three are unlike.
     dueRepeats("51 62 62 73 51", 2, 51, 62, 62, 73, 51);
     dueRepeats("51 51 62 73 51", 2, 51, 51, 62, 73, 51);
