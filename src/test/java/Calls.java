@@ -4,8 +4,10 @@
  */
 final class Calls {
   static final int MOST = 512;
-  /** What share's telling answers where it throws what the document names. */
+  /** What share answers here where it throws what the document names. */
   static final long THROWS = Long.MIN_VALUE;
+  /** What it answers where the machine throws the like by itself, which it must not. */
+  static final long MACHINE_THROWS = Long.MIN_VALUE + 1;
   private static String last = "no call";
 
   private final String made;
@@ -21,6 +23,11 @@ final class Calls {
   /** An object with the widest SPAN and the greatest DEPTH. */
   Calls() {
     this(300, 64);
+  }
+
+  /** A small text with a dictionary, which has each kind of piece, and states that are soon told. */
+  static Calls small() {
+    return new Calls(9, 2).ahead("xyz").text("xyzxyab");
   }
 
   static String last() {
@@ -152,7 +159,7 @@ final class Calls {
     try {
       return at("share(" + way + ")").share(way);
     } catch (ArithmeticException e) {
-      return THROWS;
+      return "/ by zero".equals(e.getMessage()) ? MACHINE_THROWS : THROWS;
     }
   }
 }

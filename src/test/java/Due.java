@@ -20,6 +20,14 @@ final class Due {
   Due(String name) {
     this.name = name;
     this.document = read(System.getProperty("document", "../shared/DOC.md"));
+    Thread.setDefaultUncaughtExceptionHandler((thread, thrown) -> stop(thrown));
+  }
+
+  /** Nothing but share's exception may come from a call. */
+  private void stop(Throwable thrown) {
+    System.out.println(name + sentence + ": " + Calls.last() + " ended the test");
+    thrown.printStackTrace(System.out);
+    System.exit(1);
   }
 
   private static String read(String path) {
@@ -65,6 +73,9 @@ final class Due {
   }
 
   private static String told(long answer) {
+    if (answer == Calls.MACHINE_THROWS) {
+      return "the machine's own ArithmeticException";
+    }
     return answer == Calls.THROWS ? "throws.ArithmeticException" : Long.toString(answer);
   }
 

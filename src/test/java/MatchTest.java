@@ -210,10 +210,6 @@ public final class MatchTest {
 
   // ---- what is refused
 
-  private static Calls small() {
-    return new Calls(9, 2).ahead("xyz").text("xyzxyab");
-  }
-
   private static int askPlain(int promise, Calls x, int place, int what) {
     return promise == FRONT ? x.front(place, -1, what) : ask(promise, x, place, what);
   }
@@ -221,7 +217,7 @@ public final class MatchTest {
   private static void noSuchPlace(int promise) {
     DUE.sentence(promise, "-1 there is no such place");
     int[] places = {-1, -2, -3, -4, 7, 8, 300, 360, MIN, MAX, MAX - 1};
-    Calls x = small();
+    Calls x = Calls.small();
     for (int what = 0; what <= 1; what++) {
       for (int place : places) {
         DUE.due(askPlain(promise, x, place, what), -1);
@@ -252,7 +248,7 @@ public final class MatchTest {
   private static void whatOutside(int promise) {
     DUE.sentence(promise, "-2 outside its bounds");
     int[] whats = {-1, 2, 3, MIN, MAX};
-    Calls x = small();
+    Calls x = Calls.small();
     for (int what : whats) {
       DUE.due(askPlain(promise, x, 0, what), -2);
       // Where there is no match, too.
@@ -263,7 +259,7 @@ public final class MatchTest {
 
   private static void placeAheadOfWhat(int promise) {
     DUE.sentence(promise, promise == FRONT ? "-1 (also: no such k); -2 what" : promise == CHAINED ? "Likewise" : "-1; -2.");
-    Calls x = small();
+    Calls x = Calls.small();
     int[] places = {-1, 7, MIN, MAX};
     for (int place : places) {
       DUE.due(askPlain(promise, x, place, -1), -1);
@@ -274,13 +270,13 @@ public final class MatchTest {
 
   private static void asksChangeNothing(int promise) {
     DUE.sentence(promise, "REFUSALS change nothing");
-    Calls x = small();
+    Calls x = Calls.small();
     askPlain(promise, x, -1, 0);
     askPlain(promise, x, 7, 0);
     askPlain(promise, x, 0, 2);
     askPlain(promise, x, 0, 0);
     askPlain(promise, x, 6, 1);
-    DUE.same("the state", x.state(), small().state());
+    DUE.same("the state", x.state(), Calls.small().state());
   }
 
   private static void noMatch(int promise) {

@@ -24,10 +24,6 @@ public final class PieceTest {
     return new Calls().same(n, 5);
   }
 
-  private static Calls small() {
-    return new Calls(9, 2).ahead("xyz").text("xyzxyab");
-  }
-
   private static void dueAll(Calls x, int way, int plain, int withRepeats, int repeats) {
     DUE.due(x.bits(way, 0), plain);
     DUE.due(x.bits(way, 1), withRepeats);
@@ -55,12 +51,12 @@ public final class PieceTest {
 
   private static void noSuchWay() {
     DUE.sentence(11, "of a WAY (0 to 3) has. -1.");
-    Calls x = small();
+    Calls x = Calls.small();
     for (int way : NO_WAYS) {
       DUE.due(x.pieces(way), -1);
       DUE.due(new Calls().pieces(way), -1);
     }
-    DUE.same("the state", x.state(), small().state());
+    DUE.same("the state", x.state(), Calls.small().state());
     for (int way = 0; way <= 3; way++) {
       DUE.due(x.pieces(way), 3);
     }
@@ -278,6 +274,7 @@ public final class PieceTest {
     fewest();
     fewestWithAShorterMatch();
     fewestWithALesserDistance();
+    fewestWithAGreaterDistance();
     ofSeveralTheLonger();
     ofSeveralTheLongerAheadOfLiterals();
     ofSeveralTheLesserDistance();
@@ -295,6 +292,13 @@ public final class PieceTest {
     DUE.row(x, 3, "0:1:0 1:33:1 34:17:1");
     dueAll(x, 0, 33, 34, 1);
     dueAll(x, 3, 31, 32, 1);
+  }
+
+  /** 6 of DISTANCE 11 have 14 bits; 3 of DISTANCE 4, and 3 more of 11, have 8 + 10. */
+  private static void fewestWithAGreaterDistance() {
+    DUE.sentence(12, FEWEST);
+    dueEnd(new Calls().text("abcdef1abc2abcdef"), 3, " 10:1:0 11:6:11");
+    dueEnd(new Calls().text("abcdefg1abcdef2abc3abcdefg"), 3, " 18:1:0 19:7:19");
   }
 
   /** A MATCH cut short so that the next one begins sooner. */
@@ -367,7 +371,7 @@ public final class PieceTest {
 
   private static void pieceOfEachKind() {
     DUE.sentence(12, "0 its place, 1 LENGTH (1: a LITERAL), 2 DISTANCE (0: a LITERAL)");
-    Calls x = small();
+    Calls x = Calls.small();
     int[][] want = {{0, 5, 3}, {5, 1, 0}, {6, 1, 0}};
     for (int way = 0; way <= 3; way++) {
       for (int i = 0; i < 3; i++) {
@@ -380,7 +384,7 @@ public final class PieceTest {
 
   private static void pieceOfNoSuchWay() {
     DUE.sentence(12, "-1 there is no such place, piece, way");
-    Calls x = small();
+    Calls x = Calls.small();
     for (int way : NO_WAYS) {
       for (int what = 0; what <= 2; what++) {
         DUE.due(x.piece(way, 0, what), -1);
@@ -390,7 +394,7 @@ public final class PieceTest {
 
   private static void noSuchPiece() {
     DUE.sentence(12, "-1 there is no such place, piece, way");
-    Calls x = small();
+    Calls x = Calls.small();
     int[] none = {-1, -2, 3, 4, 7, 299, 300, MIN, MAX};
     for (int way = 0; way <= 3; way++) {
       for (int i : none) {
@@ -405,7 +409,7 @@ public final class PieceTest {
   /** Nor of one that had some. */
   private static void noPieceOfTheEmpty() {
     DUE.sentence(12, "-1 there is no such place, piece, way");
-    Calls x = small();
+    Calls x = Calls.small();
     for (int way = 0; way <= 3; way++) {
       DUE.due(new Calls().piece(way, 0, 0), -1);
       DUE.due(x.piece(way, 0, 0), 0);
@@ -424,7 +428,7 @@ public final class PieceTest {
 
   private static void pieceWhatOutside() {
     DUE.sentence(12, "-2 outside its bounds");
-    Calls x = small();
+    Calls x = Calls.small();
     int[] whats = {-1, 3, 4, MIN, MAX};
     for (int way = 0; way <= 3; way++) {
       for (int what : whats) {
@@ -436,7 +440,7 @@ public final class PieceTest {
 
   private static void pieceAheadOfWhat() {
     DUE.sentence(12, "-1; -2.");
-    Calls x = small();
+    Calls x = Calls.small();
     int[] whats = {-1, 3, MIN, MAX};
     for (int what : whats) {
       DUE.due(x.piece(-1, 0, what), -1);
@@ -449,12 +453,12 @@ public final class PieceTest {
 
   private static void pieceRefusedChangesNothing() {
     DUE.sentence(12, "REFUSALS change nothing");
-    Calls x = small();
+    Calls x = Calls.small();
     x.piece(4, 0, 0);
     x.piece(0, 3, 0);
     x.piece(1, -1, 0);
     x.piece(3, 0, 3);
-    DUE.same("the state", x.state(), small().state());
+    DUE.same("the state", x.state(), Calls.small().state());
   }
 
   // ---- promise 13
@@ -583,18 +587,18 @@ public final class PieceTest {
 
   private static void bitsOfNoSuchWay() {
     DUE.sentence(13, "-1 there is no such place, piece, way");
-    Calls x = small();
+    Calls x = Calls.small();
     for (int way : NO_WAYS) {
       DUE.due(x.bits(way, 0), -1);
       DUE.due(x.bits(way, 1), -1);
       DUE.due(new Calls().bits(way, 0), -1);
     }
-    DUE.same("the state", x.state(), small().state());
+    DUE.same("the state", x.state(), Calls.small().state());
   }
 
   private static void bitsWhatOutside() {
     DUE.sentence(13, "-2 outside its bounds");
-    Calls x = small();
+    Calls x = Calls.small();
     int[] whats = {-1, 2, 3, MIN, MAX};
     for (int way = 0; way <= 3; way++) {
       for (int what : whats) {
@@ -602,12 +606,12 @@ public final class PieceTest {
         DUE.due(new Calls().bits(way, what), -2);
       }
     }
-    DUE.same("the state", x.state(), small().state());
+    DUE.same("the state", x.state(), Calls.small().state());
   }
 
   private static void wayAheadOfWhat() {
     DUE.sentence(13, "-1; -2.");
-    Calls x = small();
+    Calls x = Calls.small();
     for (int way : NO_WAYS) {
       DUE.due(x.bits(way, -1), -1);
       DUE.due(x.bits(way, 2), -1);
@@ -655,6 +659,7 @@ public final class PieceTest {
   private static void repeats() {
     repeatsOfTheEmpty();
     repeatsOfNone();
+    repeatsOfTheRowBefore();
     repeatsOfTheLastThree();
     repeatsOfUnlikeOnes();
     repeatsMakeTheLatest();
@@ -686,6 +691,22 @@ public final class PieceTest {
     dueRepeats(0, 51, 62, 73, 84, 95);
   }
 
+  /** The three of a row that was told before, here 5, 4 and 3, are none of the next row's. */
+  private static void repeatsOfTheRowBefore() {
+    DUE.sentence(14, "(none at first)");
+    String[] next = {"abcabc", "abcdabcd", "abcdeabcde"};
+    for (int way = 0; way <= 3; way++) {
+      for (String text : next) {
+        Calls x = new Calls().text("abcabc-defgdefg+hijklhijkl");
+        DUE.due(x.repeats(way), 0);
+        DUE.due(x.piece(way, x.pieces(way) - 1, 2), 5);
+        x.clear();
+        DUE.due(x.text(text).repeats(way), 0);
+        DUE.due(x.bits(way, 1), x.bits(way, 0));
+      }
+    }
+  }
+
   private static void repeatsOfTheLastThree() {
     DUE.sentence(14, "the last three unlike DISTANCES of a row, the latest first");
     dueRepeats(1, 51, 51);
@@ -712,6 +733,8 @@ public final class PieceTest {
     dueRepeats(2, 51, 62, 73, 51, 84, 51);
     dueRepeats(1, 51, 62, 73, 62, 84, 51);
     dueRepeats(2, 51, 62, 73, 62, 84, 73);
+    dueRepeats(2, 51, 62, 51, 73, 84, 51);
+    dueRepeats(1, 51, 62, 51, 73, 84, 62);
   }
 
   private static void repeatsOfEach() {
@@ -729,12 +752,12 @@ public final class PieceTest {
 
   private static void repeatsOfNoSuchWay() {
     DUE.sentence(14, "-1.");
-    Calls x = small();
+    Calls x = Calls.small();
     for (int way : NO_WAYS) {
       DUE.due(x.repeats(way), -1);
       DUE.due(new Calls().repeats(way), -1);
     }
-    DUE.same("the state", x.state(), small().state());
+    DUE.same("the state", x.state(), Calls.small().state());
   }
 
   // ---- promise 15
@@ -784,7 +807,7 @@ public final class PieceTest {
 
   private static void shareOfTheEmpty() {
     DUE.sentence(15, "ArithmeticException: it has none.");
-    Calls x = small();
+    Calls x = Calls.small();
     for (int way = 0; way <= 3; way++) {
       DUE.due(new Calls().share(way), Calls.THROWS);
       DUE.due(new Calls().ahead("abc").share(way), Calls.THROWS);
@@ -811,12 +834,12 @@ public final class PieceTest {
 
   private static void wayAheadOfTheEmpty() {
     DUE.sentence(15, "-1 (first).");
-    Calls x = small();
+    Calls x = Calls.small();
     for (int way : NO_WAYS) {
       DUE.due(new Calls().share(way), -1);
       DUE.due(new Calls().ahead("abc").share(way), -1);
       DUE.due(x.share(way), -1);
     }
-    DUE.same("the state", x.state(), small().state());
+    DUE.same("the state", x.state(), Calls.small().state());
   }
 }

@@ -239,17 +239,12 @@ public final class TextTest {
     DUE.due(x.add(-1), -2);
   }
 
-  /** A small text with a dictionary, which has each kind of piece. */
-  private static Calls small() {
-    return new Calls(9, 2).ahead("xyz").text("xyzxyab");
-  }
-
   private static void addRefusedChangesNothing() {
     DUE.sentence(2, "REFUSALS change nothing");
-    Calls x = small();
+    Calls x = Calls.small();
     x.add(256);
     x.add(-1);
-    DUE.same("the state", x.state(), small().state());
+    DUE.same("the state", x.state(), Calls.small().state());
     Calls full = new Calls(1, 1);
     full.fill(300, 1, 0);
     int bits = full.bits(3, 1);
@@ -331,13 +326,13 @@ public final class TextTest {
 
   private static void fillRefusedChangesNothing() {
     DUE.sentence(3, "REFUSALS change nothing");
-    Calls x = small();
+    Calls x = Calls.small();
     DUE.due(x.fill(294, 5, 0), -4);
     DUE.due(x.fill(0, 5, 0), -2);
     DUE.due(x.fill(301, 5, 1), -2);
     DUE.due(x.fill(3, 5, 3), -2);
     DUE.due(x.fill(3, 5, -1), -2);
-    DUE.same("the state", x.state(), small().state());
+    DUE.same("the state", x.state(), Calls.small().state());
   }
 
   private static void dueBytes(Calls x, int... want) {
@@ -662,10 +657,10 @@ public final class TextTest {
     int[] outside = {-1, 2, 3, MIN, MAX};
     Calls empty = new Calls();
     for (int what : outside) {
-      Calls x = small();
+      Calls x = Calls.small();
       DUE.due(x.size(what), -2);
       DUE.due(empty.size(what), -2);
-      DUE.same("the state", x.state(), small().state());
+      DUE.same("the state", x.state(), Calls.small().state());
     }
   }
 
@@ -724,10 +719,10 @@ public final class TextTest {
     DUE.sentence(7, "-1 there is no such place");
     int[] beyond = {300, 360, -60, -61, -300, MIN, MIN + 1, MAX, MAX - 60};
     for (int i : beyond) {
-      Calls x = small();
+      Calls x = Calls.small();
       DUE.due(new Calls().octet(i), -1);
       DUE.due(x.octet(i), -1);
-      DUE.same("the state", x.state(), small().state());
+      DUE.same("the state", x.state(), Calls.small().state());
     }
     DUE.due(new Calls().octet(0), -1);
     DUE.due(new Calls().octet(-1), -1);
