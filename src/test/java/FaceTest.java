@@ -87,6 +87,14 @@ public final class FaceTest {
     for (String word : NOT_ALLOWED) {
       DUE.holds("the source has no '" + word + "'", !bare.contains(word));
     }
+    DUE.holds("---- matches stands ahead of longest", stands(code, "octet(", "// ---- matches", "longest("));
+    DUE.holds("---- pieces stands ahead of pieces", stands(code, "front(", "// ---- pieces", "pieces("));
     DUE.due("throw statements", bare.split("throw new", -1).length - 1, 1);
+  }
+
+  /** Whether a comment stands between two calls of the face. */
+  private static boolean stands(String code, String before, String comment, String behind) {
+    int at = code.indexOf(comment);
+    return code.indexOf("public int " + before) < at && at < code.indexOf("public int " + behind);
   }
 }

@@ -370,6 +370,7 @@ public final class MatchTest {
     frontWithoutSuchK();
     frontWhatOutside();
     frontKAheadOfWhat();
+    frontRefusedChangesNothing();
     frontWithinSpanNotDepth();
   }
 
@@ -498,6 +499,16 @@ public final class MatchTest {
       DUE.due(x.front(0, 0, what), -1);
       DUE.due(x.front(28, 0, what), -1);
     }
+  }
+
+  private static void frontRefusedChangesNothing() {
+    DUE.sentence(FRONT, "REFUSALS change nothing");
+    Calls x = Calls.small();
+    DUE.due(x.front(0, 1, 0), -1);
+    DUE.due(x.front(0, -2, 0), -1);
+    DUE.due(x.front(0, 0, 2), -2);
+    DUE.due(x.front(7, 0, 0), -1);
+    DUE.same("the state", x.state(), Calls.small().state());
   }
 
   private static void frontWithinSpanNotDepth() {
