@@ -783,7 +783,7 @@ public final class PieceTest {
     }
     // 59 bits of 88 are 670.45.
     DUE.due(new Calls().text("abc-abcabcd").share(0), 670);
-    // 51 bits of 72 are 708.3; 33 of 48 are 687.5.
+    // 33 bits of 48 are 687.5.
     DUE.due(new Calls().text("abcabc").share(0), 687);
   }
 
